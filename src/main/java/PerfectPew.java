@@ -398,9 +398,9 @@ public final class PerfectPew {
             members = new Row(mostThings);
         }
 
-        private void restart(int things, int groupsNow) {
-            thingCount = things;
-            groupCount = groupsNow;
+        private void restart(int manyThings, int manyGroups) {
+            thingCount = manyThings;
+            groupCount = manyGroups;
             begins.fill(0);
         }
 
@@ -451,6 +451,7 @@ public final class PerfectPew {
         private final Groups ranksByBucket = new Groups(MOST_KEYS, MOST_KEYS);
         private final Row starts = new Row(MOST_KEYS);
         private final Row steps = new Row(MOST_KEYS);
+        private final Row numbers = new Row(MOST_KEYS);
         private final Row displacements = new Row(MOST_KEYS);
         private final Row ranksByNumber = new Row(MOST_KEYS);
         private int keyCount;
@@ -523,17 +524,19 @@ public final class PerfectPew {
                 int rank = ranksByBucket.memberAt(i);
                 int number = numberWith(rank, displacement);
                 if (ranksByNumber.get(number) != NONE) {
-                    takeBack(begin, i, displacement);
+                    takeBack(begin, i);
                     return false;
                 }
                 ranksByNumber.set(number, rank);
+                numbers.set(rank, number);
             }
             return true;
         }
 
-        private void takeBack(int begin, int end, int displacement) {
+        private void takeBack(int begin, int end) {
             for (int i = begin; i < end; i++) {
-                ranksByNumber.set(numberWith(ranksByBucket.memberAt(i), displacement), NONE);
+                int rank = ranksByBucket.memberAt(i);
+                ranksByNumber.set(numbers.get(rank), NONE);
             }
         }
 

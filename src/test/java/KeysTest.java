@@ -96,6 +96,7 @@ public final class KeysTest {
         for (int many : new int[] {0, -1, 41, Integer.MIN_VALUE, Integer.MAX_VALUE}) {
             Check.refusesArgument("many " + many, () -> pew.addLine(1, 1, many));
         }
+        Check.refusesArgument("a first key of -1 alone wrong", () -> pew.addLine(-1, 1, 2));
         Check.refusesArgument("a last key of 100000", () -> pew.addLine(99961, 1, 40));
         Check.refusesArgument("a last key far above", () -> pew.addLine(99999, 9999, 40));
         pew.build(1, 1);
