@@ -1,8 +1,5 @@
 /** Promises 8 to 10: build, reopen, isBuilt. */
 public final class BuildingTest {
-    private static final int[] LAST_GRAPH_SEED = {20871, 28224, 34935, 42058, 63657, 86965};
-    private static final int[] NO_GRAPH_SEED = {5897, 11835, 19336, 27743, 36523, 51205};
-
     public static void main(String[] args) {
         build();
         buildRefusesArguments();
@@ -60,10 +57,10 @@ public final class BuildingTest {
     }
 
     private static void seedsOfTheGraph() {
-        PerfectPew last = Sets.of(LAST_GRAPH_SEED);
+        PerfectPew last = Sets.of(Sets.LAST_GRAPH_SEED);
         Check.same("displacing seed with the last graph seed", last.build(2, 8), 2);
         Check.same("the last graph seed", last.graphSeed(), 199);
-        PerfectPew none = Sets.of(NO_GRAPH_SEED);
+        PerfectPew none = Sets.of(Sets.NO_GRAPH_SEED);
         Check.refusesState("a build that graph seed 200 alone would do", () -> none.build(2, 8));
         Check.same("not built", none.isBuilt(), false);
     }

@@ -46,6 +46,10 @@ final class Check {
         }
     }
 
+    static int count() {
+        return passed + failed;
+    }
+
     static void end(String test) {
         System.out.println(test + ": " + passed + " passed, " + failed + " failed");
         if (failed > 0 || passed == 0) {

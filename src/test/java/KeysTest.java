@@ -56,20 +56,13 @@ public final class KeysTest {
         Check.refusesArgument("add(-1) when built", () -> pew.add(-1));
         Check.refusesState("add(8) when built", () -> pew.add(8));
         Check.same("keys after refusals", Sets.ranked(pew), new int[] {7});
-        PerfectPew full = fullOfKeys();
+        PerfectPew full = Sets.fullOfKeys();
         Check.refusesState("add of a 121st key", () -> full.add(99999));
         Check.refusesState("add of a key that is there, with 120 keys", () -> full.add(0));
         Check.refusesArgument("add(100000) with 120 keys", () -> full.add(100000));
         Check.same("keys when full", full.keys(), 120);
         Check.same("remove makes room", full.remove(0), 119);
         Check.same("a 120th key", full.add(99999), 120);
-    }
-
-    private static PerfectPew fullOfKeys() {
-        PerfectPew pew = Sets.line(0, 1, 40);
-        pew.addLine(1000, 2, 40);
-        pew.addLine(2000, 3, 40);
-        return pew;
     }
 
     private static void addLine() {

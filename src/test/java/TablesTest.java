@@ -85,14 +85,11 @@ public final class TablesTest {
     }
 
     private static PerfectPew graphSet() {
-        return built(Sets.of(20871, 28224, 34935, 42058, 63657, 86965), 2);
+        return built(Sets.of(Sets.LAST_GRAPH_SEED), 2);
     }
 
     private static PerfectPew wide() {
-        PerfectPew pew = Sets.line(55959, 26, 40);
-        pew.addLine(47718, 821, 40);
-        pew.addLine(37808, 456, 40);
-        return built(pew, 1);
+        return built(Sets.lines(55959, 26, 47718, 821, 37808, 456), 1);
     }
 
     private static void word() {
