@@ -138,7 +138,9 @@ public final class PerfectPew {
         requireBuilt();
         int many = 0;
         for (int key = from; key <= to; key++) {
-            if (lookUp(key) != NONE && !sorted.holds(key)) {
+            // A key that is there is the very one that has its number.
+            int number = lookUp(key);
+            if (number != NONE && keyWithNumber(number) != key) {
                 many++;
             }
         }
@@ -349,17 +351,11 @@ public final class PerfectPew {
         }
 
         private int rankOf(int key) {
-            int low = 0;
-            int high = size;
-            while (low < high) {
-                int middle = (low + high) >> 1;
-                if (places.get(middle) < key) {
-                    low = middle + 1;
-                } else {
-                    high = middle;
-                }
+            int rank = 0;
+            while (rank < size && places.get(rank) < key) {
+                rank++;
             }
-            return low;
+            return rank;
         }
 
         private boolean holds(int key) {

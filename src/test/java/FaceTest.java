@@ -1,46 +1,52 @@
+import java.io.IOException;
 import java.lang.reflect.Constructor;
 import java.lang.reflect.Field;
 import java.lang.reflect.Method;
 import java.lang.reflect.Modifier;
+import java.nio.file.Files;
+import java.nio.file.Path;
+import java.util.List;
 import java.util.TreeSet;
 
 /** The public face: the class has the document's members, and no other that can be seen. */
 public final class FaceTest {
-    private static final String STATE = " IllegalStateException";
-    private static final String ARGUMENT = " IllegalArgumentException";
-    private static final String INDEX = " IndexOutOfBoundsException";
-    private static final String[] METHODS = {
-        "int add(int)" + ARGUMENT + STATE,
-        "int addLine(int,int,int)" + ARGUMENT + STATE,
-        "int remove(int)" + ARGUMENT + STATE,
-        "int keys()",
-        "boolean has(int)" + ARGUMENT,
-        "int keyAt(int)" + INDEX,
-        "int build(int,int)" + ARGUMENT + STATE,
-        "void reopen()" + STATE,
-        "boolean isBuilt()",
-        "int number(int)" + ARGUMENT + STATE,
-        "int find(int)" + ARGUMENT + STATE,
-        "int strangers(int,int)" + ARGUMENT + STATE,
-        "int keyOf(int)" + STATE + INDEX,
-        "int fingerprint(int)" + STATE + INDEX,
-        "int seed()" + STATE,
-        "int buckets()" + STATE,
-        "int inBucket(int)" + STATE + INDEX,
-        "int displacement(int)" + STATE + INDEX,
-        "int width()" + STATE,
-        "long word(int)" + STATE + INDEX,
-        "int byGraph(int)" + ARGUMENT + STATE,
-        "int graphSeed()" + STATE,
-        "int valueOf(int)" + STATE + INDEX,
-    };
+    private static final String METHOD = "    public (?!final|static).* .*[(].*";
 
-    public static void main(String[] args) {
+    public static void main(String[] args) throws IOException {
+        Document document = Document.read(args[1]);
+        List<String> face = document.lines("The public face");
+        String text = Files.readString(Path.of(args[0])).replaceAll("\\s+", " ");
         theClass();
-        methods();
+        methods(face);
         fields();
         namesInside();
+        linesOfTheFace(face, text);
+        headsOfThePromises(face, document);
         Check.end("FaceTest");
+    }
+
+    /** Names of arguments are in the text alone. */
+    private static void linesOfTheFace(List<String> face, String text) {
+        for (String line : face) {
+            String words = line.strip();
+            if (words.startsWith("public ")) {
+                Check.same("'" + words + "' is in the text",
+                        text.contains(words) || text.contains(words.replace(";", " {")), true);
+            }
+        }
+    }
+
+    private static void headsOfThePromises(List<String> face, Document document) {
+        int promises = 0;
+        for (String line : face) {
+            if (line.startsWith("    public ") && line.contains("(")) {
+                promises++;
+                String head = line.strip().replaceAll("^public |;$", "");
+                Check.same("promise " + promises + " is " + head,
+                        document.text("Promise " + promises).contains("`" + head + "`: "), true);
+            }
+        }
+        Check.same("members with a promise", promises, 24);
     }
 
     private static void theClass() {
@@ -52,10 +58,12 @@ public final class FaceTest {
         Check.same("the constructor", constructors[0].toString(), "public PerfectPew()");
     }
 
-    private static void methods() {
+    private static void methods(List<String> face) {
         TreeSet<String> due = new TreeSet<>();
-        for (String method : METHODS) {
-            due.add(method);
+        for (String line : face) {
+            if (line.matches(METHOD)) {
+                due.add(withoutNames(line));
+            }
         }
         TreeSet<String> seen = new TreeSet<>();
         for (Method method : PerfectPew.class.getDeclaredMethods()) {
@@ -64,6 +72,12 @@ public final class FaceTest {
             }
         }
         Check.same("the methods", seen, due);
+    }
+
+    /** Arguments by their types alone, and the exceptions behind them. */
+    private static String withoutNames(String line) {
+        return line.replaceAll("^ *public |;$| throws|,(?= [A-Z])", "")
+                .replaceAll("int [a-z]+(?=[,)])", "int").replace(", ", ",");
     }
 
     private static String signature(Method method) {
@@ -88,6 +102,7 @@ public final class FaceTest {
         }
         Check.same("the constants", seen.toString(),
                 "[public static final int PerfectPew.NONE]");
+        Check.same("NONE", PerfectPew.NONE, -1);
     }
 
     /** LANGUAGE.md, rule 1: no private method bears the name of a public one. */

@@ -27,6 +27,11 @@ final class Sets {
         return built(open(), 2, 8);
     }
 
+    /** 20 keys in 7 buckets, with 10 bits: seed 15, graph seed 1, displacements up to 13. */
+    static PerfectPew twenty() {
+        return built(line(50, 3001, 20), 3, 10);
+    }
+
     /** 120 keys in 60 buckets of 0 to 5 keys, with 12 bits: seed 19, displacements up to 53. */
     static PerfectPew full() {
         return built(lines(76579, 15, 59257, 345, 44694, 938), 2, 12);
